@@ -122,6 +122,10 @@ public final class CheckingTest {
         dueEstimates("it is there", desk(domain, problem + "(e)) (:goal (e)))"), 0, 0);
         dueEstimates("no atom without not", desk(domain, problem + "(a)) (:goal (not (a))))"), 0, 0);
         dueEstimates("= does not matter", desk(domain, problem + ") (:goal (and (a) (= x y))))"), 4, 4);
+        Desk chain = desk("(define (domain d) (:predicates (a) (b) (c)) (:action one :parameters () :precondition (b) :effect (c))"
+            + " (:action two :parameters () :precondition (a) :effect (b)) (:action three :parameters () :effect (a)))",
+            "(define (problem p) (:domain d) (:objects x) (:init) (:goal (and (c) (b))))");
+        dueEstimates("steps told from the last to the first", chain, 3, 5);
         Desk circle = desk("(define (domain d) (:predicates (a) (b)) (:action one :parameters () :precondition (a) :effect (b))"
             + " (:action two :parameters () :precondition (b) :effect (a)))",
             "(define (problem p) (:domain d) (:objects x) (:init) (:goal (a)))");

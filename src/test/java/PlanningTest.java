@@ -54,6 +54,9 @@ public final class PlanningTest {
         Desk late = moves("(g)", move("one", "a", "b", 9), move("two", "a", "c", 1), move("three", "c", "b", 2),
             move("four", "b", "g", 1));
         duePlan("a way round", late, 200, 4, " 1 2 3");
+        Desk later = moves("(g)", move("one", "a", "b", 9), move("two", "a", "c", 1), move("three", "c", "b", 2),
+            move("four", "b", "g", 20));
+        duePlan("fewer steps at more cost do not count", later, 200, 23, " 1 2 3");
         Desk none = moves("(a)", move("one", "a", "g", 9));
         duePlan("at once", none, 1, 0, "");
     }

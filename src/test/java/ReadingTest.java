@@ -378,6 +378,17 @@ public final class ReadingTest {
         desk.dueDomain(2, 0, pairs + "(:action b :parameters (?x) :effect (p)))");
         desk.dueProblem(UOE, 0, objects(6));
         desk.dueProblem(30, 0, objects(5));
+        // 36 + 2 + 3 steps, those of a type among them.
+        String types = pairs.replace("(:predicates", "(:types t) (:predicates") + "(:action g :parameters (?x - t) :effect (p))";
+        desk.dueDomain(5, 0, types + four.substring(0, four.lastIndexOf("(:action")) + ")");
+        desk.dueProblem(UOE, 0, objects(6).replace("e f", "e - t f - t"));
+        desk.dueProblem(40, 0, objects(6).replace("e f", "e - t f"));
+        // 36 + 4 facts, then 36 + 5.
+        String square = "(define (domain d) (:predicates (p) (q ?x ?y) (r) (s) (t)";
+        desk.dueDomain(1, 0, square + ") (:action a :parameters () :effect (p)))");
+        desk.dueProblem(1, 0, objects(6));
+        desk.dueDomain(1, 0, square + " (u)) (:action a :parameters () :effect (p)))");
+        desk.dueProblem(UOE, 0, objects(6));
         // Of 216 ways 36 are steps.
         desk.dueDomain(1, 0, "(define (domain d) (:predicates (p)) (:action a :parameters (?x ?y ?z) :precondition (= ?x ?z)"
             + " :effect (p)))");
@@ -415,6 +426,13 @@ public final class ReadingTest {
         Desk.due("nor an estimate", ISE, () -> x.estimate(0));
         desk.dueProblem(1, 0, PROBLEM);
         Desk.due("plan", 1, () -> x.plan(9));
+        desk.dueDomain(2, 0, "(define (domain d) (:types t) (:predicates (p) (q ?x)) (:action a :parameters (?x ?y) :precondition"
+            + " (and (p) (= ?x ?y)) :effect (increase (total-cost) 7)) (:action b :parameters (?x - t) :effect (p)))");
+        desk.dueDomain(1, 0, DOMAIN);
+        desk.dueProblem(1, 0, PROBLEM);
+        Desk.due("nothing of another domain is left", 1, () -> x.plan(9));
+        desk.dueProblemFault(3, "(define (problem q) (:domain d) (:objects x - ^t) (:init) (:goal (p)))");
+        desk.dueProblem(1, 0, PROBLEM);
         desk.dueDomainFault(1, "^");
         Desk.due("no problem behind a faulty domain", ISE, () -> x.plan(9));
         Desk.due("no letter", IOB, () -> x.letter(0));
