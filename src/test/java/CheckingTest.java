@@ -20,36 +20,19 @@ public final class CheckingTest {
         Desk.end("CheckingTest");
     }
 
-    private static Desk desk(String domain, String problem) {
-        Desk desk = new Desk();
-        if (!desk.domain(domain).matches("[0-9]+") || !desk.problem(problem).matches("[0-9]+")) {
-            throw new IllegalStateException("can't be read: " + domain + problem);
-        }
-        return desk;
-    }
-
-    private static void dueCheck(Desk desk, int want, int... steps) {
-        StringBuilder row = new StringBuilder("row");
-        for (int step : steps) {
-            row.append(' ').append(step);
-            Desk.due(row + ": put", true, () -> desk.planner.put(step));
-        }
-        Desk.due(row + ": check", want, desk.planner::check);
-    }
-
     /** Steps: 0 go x y, 1 go y x, 2 end x, 3 end y. */
     private static void rows() {
-        Desk desk = desk(WALK, WALKED);
-        dueCheck(desk, 6, 0, 3);
-        dueCheck(desk, 6, 2, 0);
-        dueCheck(desk, 16, 0, 1, 0, 3);
-        dueCheck(desk, -1, 1);
-        dueCheck(desk, -1, 3, 0);
-        dueCheck(desk, -2, 0, 0, 1);
-        dueCheck(desk, -3, 2, 0, 3);
-        dueCheck(desk, -100, 0);
-        dueCheck(desk, -100);
-        dueCheck(desk, -100, 2);
+        Desk desk = Desk.ready(WALK, WALKED);
+        desk.dueCheck(6, 0, 3);
+        desk.dueCheck(6, 2, 0);
+        desk.dueCheck(16, 0, 1, 0, 3);
+        desk.dueCheck(-1, 1);
+        desk.dueCheck(-1, 3, 0);
+        desk.dueCheck(-2, 0, 0, 1);
+        desk.dueCheck(-3, 2, 0, 3);
+        desk.dueCheck(-100, 0);
+        desk.dueCheck(-100);
+        desk.dueCheck(-100, 2);
         Desk.due("put -1", false, () -> desk.planner.put(-1));
         Desk.due("put 4", false, () -> desk.planner.put(4));
         Desk.due("put far off", false, () -> desk.planner.put(Integer.MAX_VALUE));
@@ -61,7 +44,7 @@ public final class CheckingTest {
     }
 
     private static void fullRow() {
-        Desk desk = desk(WALK, WALKED);
+        Desk desk = Desk.ready(WALK, WALKED);
         for (int k = 0; k < 59; k++) {
             int step = k % 2;
             Desk.due("put " + k, true, () -> desk.planner.put(step));
@@ -80,14 +63,14 @@ public final class CheckingTest {
     }
 
     private static void emptyRow() {
-        Desk desk = desk(WALK, "(define (problem p) (:domain d) (:objects x) (:init (a x)) (:goal (not (g))))");
+        Desk desk = Desk.ready(WALK, "(define (problem p) (:domain d) (:objects x) (:init (a x)) (:goal (not (g))))");
         Desk.due("the goal holds at once", 0, desk.planner::check);
-        Desk never = desk(WALK, "(define (problem p) (:domain d) (:objects x) (:init (a x)) (:goal (not (= x x))))");
+        Desk never = Desk.ready(WALK, "(define (problem p) (:domain d) (:objects x) (:init (a x)) (:goal (not (= x x))))");
         Desk.due("the goal can't hold", -100, never.planner::check);
     }
 
     private static void otherProblem() {
-        Desk desk = desk(WALK, WALKED);
+        Desk desk = Desk.ready(WALK, WALKED);
         Desk.due("put", true, () -> desk.planner.put(3));
         desk.problem(WALKED);
         Desk.due("a problem empties the row", -100, desk.planner::check);
@@ -104,7 +87,7 @@ public final class CheckingTest {
     }
 
     private static void estimates() {
-        Desk walk = desk(WALK, WALKED);
+        Desk walk = Desk.ready(WALK, WALKED);
         dueEstimates("atoms with not do not count", walk, 5, 6);
         Desk.due("what -1", IAE, () -> walk.planner.estimate(-1));
         Desk.due("what 2", IAE, () -> walk.planner.estimate(2));
@@ -114,19 +97,19 @@ public final class CheckingTest {
             + " (not (c)) (increase (total-cost) 10))))";
         String problem = "(define (problem p) (:domain d) (:objects x y) (:init ";
         // c costs 3 + 4 by the greatest, and the least of 3 + 8 and 10 by the sum.
-        dueEstimates("by two ways", desk(domain, problem + ") (:goal (c)))"), 7, 10);
-        dueEstimates("two atoms", desk(domain, problem + ") (:goal (and (c) (a))))"), 7, 14);
-        dueEstimates("in the state", desk(domain, problem + "(a) (b)) (:goal (and (c) (a))))"), 3, 3);
-        dueEstimates("one in the state", desk(domain, problem + "(b)) (:goal (c)))"), 7, 7);
-        dueEstimates("can't come", desk(domain, problem + ") (:goal (and (c) (e))))"), -1, -1);
-        dueEstimates("it is there", desk(domain, problem + "(e)) (:goal (e)))"), 0, 0);
-        dueEstimates("no atom without not", desk(domain, problem + "(a)) (:goal (not (a))))"), 0, 0);
-        dueEstimates("= does not matter", desk(domain, problem + ") (:goal (and (a) (= x y))))"), 4, 4);
-        Desk chain = desk("(define (domain d) (:predicates (a) (b) (c)) (:action one :parameters () :precondition (b) :effect (c))"
+        dueEstimates("by two ways", Desk.ready(domain, problem + ") (:goal (c)))"), 7, 10);
+        dueEstimates("two atoms", Desk.ready(domain, problem + ") (:goal (and (c) (a))))"), 7, 14);
+        dueEstimates("in the state", Desk.ready(domain, problem + "(a) (b)) (:goal (and (c) (a))))"), 3, 3);
+        dueEstimates("one in the state", Desk.ready(domain, problem + "(b)) (:goal (c)))"), 7, 7);
+        dueEstimates("can't come", Desk.ready(domain, problem + ") (:goal (and (c) (e))))"), -1, -1);
+        dueEstimates("it is there", Desk.ready(domain, problem + "(e)) (:goal (e)))"), 0, 0);
+        dueEstimates("no atom without not", Desk.ready(domain, problem + "(a)) (:goal (not (a))))"), 0, 0);
+        dueEstimates("= does not matter", Desk.ready(domain, problem + ") (:goal (and (a) (= x y))))"), 4, 4);
+        Desk chain = Desk.ready("(define (domain d) (:predicates (a) (b) (c)) (:action one :parameters () :precondition (b) :effect (c))"
             + " (:action two :parameters () :precondition (a) :effect (b)) (:action three :parameters () :effect (a)))",
             "(define (problem p) (:domain d) (:objects x) (:init) (:goal (and (c) (b))))");
         dueEstimates("steps told from the last to the first", chain, 3, 5);
-        Desk circle = desk("(define (domain d) (:predicates (a) (b)) (:action one :parameters () :precondition (a) :effect (b))"
+        Desk circle = Desk.ready("(define (domain d) (:predicates (a) (b)) (:action one :parameters () :precondition (a) :effect (b))"
             + " (:action two :parameters () :precondition (b) :effect (a)))",
             "(define (problem p) (:domain d) (:objects x) (:init) (:goal (a)))");
         dueEstimates("each needs the other", circle, -1, -1);
@@ -137,9 +120,9 @@ public final class CheckingTest {
         String domain = "(define (domain d) (:predicates (a ?x) (b)) (:action one :parameters (?x) :effect (a ?x))"
             + " (:action two :parameters (?x ?y) :precondition (and (a ?x) (a ?y)) :effect (b)))";
         dueEstimates("an atom that is told twice",
-            desk(domain, "(define (problem p) (:domain d) (:objects x) (:init) (:goal (and (a x) (a x))))"), 1, 2);
+            Desk.ready(domain, "(define (problem p) (:domain d) (:objects x) (:init) (:goal (and (a x) (a x))))"), 1, 2);
         dueEstimates("one object for two variables",
-            desk(domain, "(define (problem p) (:domain d) (:objects x) (:init) (:goal (b)))"), 2, 3);
+            Desk.ready(domain, "(define (problem p) (:domain d) (:objects x) (:init) (:goal (b)))"), 2, 3);
     }
 
     /** Sums that double with each step, up to the bound of what is told and above it. */
@@ -149,19 +132,19 @@ public final class CheckingTest {
         String problem = "(define (problem p) (:domain d) (:objects q r s t u) (:init (a q) (n q r) (n r s) (n s t) (n t u)"
             + " (b q)) (:goal ";
         // r 999, s 999 + 2 * 999, t 7 * 999, u 15 * 999.
-        dueEstimates("high", desk(begin + "999))))", problem + "(and (a u) (b u))))"), 3996, 29970);
+        dueEstimates("high", Desk.ready(begin + "999))))", problem + "(and (a u) (b u))))"), 3996, 29970);
         String steep = "(define (domain d) (:predicates (a) (b) (c) (e) (f) (g)) (:action one :parameters () :effect (and (a) "
             + "(increase (total-cost) 999))) (:action two :parameters () :precondition (and (a) (a) (a) (a)) :effect (b))"
             + "(:action three :parameters () :precondition (and (b) (b) (b) (b)) :effect (c))"
             + "(:action four :parameters () :precondition (and (c) (c) (c) (c)) :effect (e))"
             + "(:action five :parameters () :precondition (and (e) (e) (e) (e)) :effect (f)))";
-        dueEstimates("at the bound", desk(steep, "(define (problem p) (:domain d) (:objects x) (:init) (:goal (and (e))))"),
+        dueEstimates("below the bound", Desk.ready(steep, "(define (problem p) (:domain d) (:objects x) (:init) (:goal (and (e))))"),
             1002, 63957);
-        dueEstimates("above the bound", desk(steep, "(define (problem p) (:domain d) (:objects x) (:init) (:goal (and (f))))"),
+        dueEstimates("above the bound", Desk.ready(steep, "(define (problem p) (:domain d) (:objects x) (:init) (:goal (and (f))))"),
             1003, 100000);
         dueEstimates("a sum above the bound",
-            desk(steep, "(define (problem p) (:domain d) (:objects x) (:init) (:goal (and (e) (e))))"), 1002, 100000);
+            Desk.ready(steep, "(define (problem p) (:domain d) (:objects x) (:init) (:goal (and (e) (e))))"), 1002, 100000);
         dueEstimates("above the bound, yet it can't come",
-            desk(steep, "(define (problem p) (:domain d) (:objects x) (:init) (:goal (and (f) (g))))"), -1, -1);
+            Desk.ready(steep, "(define (problem p) (:domain d) (:objects x) (:init) (:goal (and (f) (g))))"), -1, -1);
     }
 }

@@ -9,6 +9,8 @@ final class Desk {
 
     private static int wrong = 0;
     private static int calls = 0;
+    private static String sentence = "";
+    private static int callsBefore = -1;
 
     final CheapPlanner planner = new CheapPlanner();
 
@@ -23,15 +25,35 @@ final class Desk {
         }
     }
 
+    /** What follows tests this sentence of the document, and is told with it if it is wrong. */
+    static void sentence(String words) {
+        if (calls == callsBefore) {
+            wrong++;
+            System.out.println("no call tests: " + sentence);
+        }
+        sentence = words;
+        callsBefore = calls;
+    }
+
     static void due(String what, Object want, Call call) {
         String got = told(call);
         if (!got.equals(String.valueOf(want))) {
             wrong++;
-            System.out.println(what + " answered " + got + ", due is " + want);
+            System.out.println(what + " answered " + got + ", due is " + want + (sentence.isEmpty() ? "" : ", by: " + sentence));
         }
     }
 
+    /** A planner that has read a domain and a problem in which there is no fault. */
+    static Desk ready(String domain, String problem) {
+        Desk desk = new Desk();
+        if (!desk.domain(domain).matches("[0-9]+") || !desk.problem(problem).matches("[0-9]+")) {
+            throw new IllegalStateException("can't be read: " + domain + problem);
+        }
+        return desk;
+    }
+
     static void end(String name) {
+        sentence("");
         System.out.println(name + ": " + calls + " calls, " + wrong + " wrong");
         if (wrong != 0 || calls == 0) {
             System.exit(1);
@@ -106,5 +128,15 @@ final class Desk {
     void dueProblemFault(int number, String marked) {
         int place = marked.indexOf('^');
         dueProblem("IllegalArgumentException", number + 10 * place, marked.replace("^", ""));
+    }
+
+    /** Puts the steps into the row and checks it. */
+    void dueCheck(int want, int... steps) {
+        StringBuilder row = new StringBuilder("row");
+        for (int step : steps) {
+            row.append(' ').append(step);
+            due(row + ": put", true, () -> planner.put(step));
+        }
+        due(row + ": check", want, planner::check);
     }
 }

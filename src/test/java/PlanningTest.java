@@ -28,16 +28,8 @@ public final class PlanningTest {
             + ")) (increase (total-cost) " + cost + ")))";
     }
 
-    private static Desk desk(String domain, String problem) {
-        Desk desk = new Desk();
-        if (!desk.domain(domain).matches("[0-9]+") || !desk.problem(problem).matches("[0-9]+")) {
-            throw new IllegalStateException("can't be read: " + domain + problem);
-        }
-        return desk;
-    }
-
     private static Desk moves(String goal, String... actions) {
-        return desk("(define (domain d) (:predicates (a) (b) (c) (e) (f) (g)) " + String.join("", actions) + ")",
+        return Desk.ready("(define (domain d) (:predicates (a) (b) (c) (e) (f) (g)) " + String.join("", actions) + ")",
             "(define (problem p) (:domain d) (:objects x) (:init (a)) (:goal " + goal + "))");
     }
 
@@ -78,7 +70,7 @@ public final class PlanningTest {
             move("four", "b", "g", 1));
         duePlan("the first one, though it is dearer", costs, 200, 5, " 0 3");
         // Two lamps in either order, and a third that is not asked for.
-        Desk lamps = desk("(define (domain d) (:predicates (on ?x)) (:action lit :parameters (?x) :precondition (not (on ?x))"
+        Desk lamps = Desk.ready("(define (domain d) (:predicates (on ?x)) (:action lit :parameters (?x) :precondition (not (on ?x))"
             + " :effect (on ?x)))",
             "(define (problem p) (:domain d) (:objects x y z) (:init) (:goal (and (on z) (on x))))");
         duePlan("any order", lamps, 200, 2, " 0 2");
@@ -86,7 +78,7 @@ public final class PlanningTest {
 
     /** Two states in which the goal holds at the same cost: the first way in order counts. */
     private static void laterGoalsOfOneLayer() {
-        Desk desk = desk("(define (domain d) (:predicates (a) (b) (g) (h)) (:action one :parameters () :precondition (b)"
+        Desk desk = Desk.ready("(define (domain d) (:predicates (a) (b) (g) (h)) (:action one :parameters () :precondition (b)"
             + " :effect (and (g) (h))) (:action two :parameters () :effect (a)) (:action three :parameters () :effect (b))"
             + " (:action four :parameters () :precondition (a) :effect (g)))",
             "(define (problem p) (:domain d) (:objects x) (:init) (:goal (g)))");
@@ -94,7 +86,7 @@ public final class PlanningTest {
     }
 
     private static void goThenCome() {
-        Desk desk = desk("(define (domain d) (:predicates (a ?x) (g)) (:action swap :parameters (?x ?y) :precondition (a ?x)"
+        Desk desk = Desk.ready("(define (domain d) (:predicates (a ?x) (g)) (:action swap :parameters (?x ?y) :precondition (a ?x)"
             + " :effect (and (a ?y) (not (a ?x)))) (:action end :parameters (?x) :precondition (and (a ?x) (not (g)))"
             + " :effect (and (not (a ?x)) (g))))",
             "(define (problem p) (:domain d) (:objects x y) (:init (a x)) (:goal (and (g) (not (a x)) (not (a y)))))");
@@ -116,17 +108,17 @@ public final class PlanningTest {
         Desk untrue = moves("(and (a) (not (= x x)))", move("one", "a", "b", 9));
         Desk.due("a goal that can't hold", -1, () -> untrue.planner.plan(2));
         Desk.due("its states are counted", UOE, () -> untrue.planner.plan(1));
-        Desk still = desk("(define (domain d) (:types t) (:predicates (g)) (:action a :parameters (?x - t) :effect (g)))",
+        Desk still = Desk.ready("(define (domain d) (:types t) (:predicates (g)) (:action a :parameters (?x - t) :effect (g)))",
             "(define (problem p) (:domain d) (:objects x) (:init) (:goal (g)))");
         Desk.due("no step at all", -1, () -> still.planner.plan(1));
-        Desk same = desk("(define (domain d) (:predicates (g)) (:action a :parameters () :effect (not (g))))",
+        Desk same = Desk.ready("(define (domain d) (:predicates (g)) (:action a :parameters () :effect (not (g))))",
             "(define (problem p) (:domain d) (:objects x) (:init) (:goal (g)))");
         Desk.due("the first state again and again", -1, () -> same.planner.plan(1));
     }
 
     /** Six lamps: 64 states, those with k lit ones at cost k. */
     private static void stateLimit() {
-        Desk desk = desk("(define (domain d) (:predicates (on ?x)) (:action lit :parameters (?x) :effect (on ?x)))",
+        Desk desk = Desk.ready("(define (domain d) (:predicates (on ?x)) (:action lit :parameters (?x) :effect (on ?x)))",
             "(define (problem p) (:domain d) (:objects a b c d e f) (:init) (:goal (and (on d) (on c) (on f) (on e))))");
         Desk.due("1 + 6 + 15 + 20 states", UOE, () -> desk.planner.plan(41));
         duePlan("just so many", desk, 42, 4, " 2 3 4 5");
@@ -138,12 +130,12 @@ public final class PlanningTest {
         Desk.due("states 0", IAE, () -> desk.planner.plan(0));
         Desk.due("states 201", IAE, () -> desk.planner.plan(201));
         Desk.due("the plan stays", " 2 3 4 5", desk::planSteps);
-        Desk many = desk("(define (domain d) (:predicates (on ?x) (up ?x)) (:action lit :parameters (?x) :effect (on ?x))"
+        Desk many = Desk.ready("(define (domain d) (:predicates (on ?x) (up ?x)) (:action lit :parameters (?x) :effect (on ?x))"
             + "(:action lift :parameters (?x) :effect (up ?x)))",
             "(define (problem p) (:domain d) (:objects a b c d e f) (:init) (:goal (and (on f) (up f) (on a) (up a))))");
         // 1 + 12 + 66 + 220.
         Desk.due("299 states", UOE, () -> many.planner.plan(200));
-        Desk never = desk("(define (domain d) (:predicates (on ?x) (g)) (:action lit :parameters (?x) :effect (on ?x)))",
+        Desk never = Desk.ready("(define (domain d) (:predicates (on ?x) (g)) (:action lit :parameters (?x) :effect (on ?x)))",
             "(define (problem p) (:domain d) (:objects a b c d e f) (:init) (:goal (g)))");
         Desk.due("63 are too few", UOE, () -> never.planner.plan(63));
         Desk.due("64 are enough", -1, () -> never.planner.plan(64));
@@ -151,10 +143,10 @@ public final class PlanningTest {
 
     /** States that cost as much as the plan are not counted, wherever they come. */
     private static void limitBesideTheGoal() {
-        Desk desk = desk("(define (domain d) (:predicates (on ?x)) (:action lit :parameters (?x) :effect (on ?x)))",
+        Desk desk = Desk.ready("(define (domain d) (:predicates (on ?x)) (:action lit :parameters (?x) :effect (on ?x)))",
             "(define (problem p) (:domain d) (:objects a b c d e f) (:init) (:goal (on f)))");
         duePlan("behind five others", desk, 1, 1, " 5");
-        Desk front = desk("(define (domain d) (:predicates (on ?x)) (:action lit :parameters (?x) :effect (on ?x)))",
+        Desk front = Desk.ready("(define (domain d) (:predicates (on ?x)) (:action lit :parameters (?x) :effect (on ?x)))",
             "(define (problem p) (:domain d) (:objects a b c d e f) (:init) (:goal (on a)))");
         duePlan("before five others", front, 1, 1, " 0");
     }
@@ -162,7 +154,7 @@ public final class PlanningTest {
     /** A counter of four bits, and a fifth that starts it again at 8: the only way has 23 steps. */
     private static void longPlan() {
         String begin = " :parameters () :precondition (and ";
-        Desk desk = desk("(define (domain d) (:predicates (a) (b) (c) (d) (e))"
+        Desk desk = Desk.ready("(define (domain d) (:predicates (a) (b) (c) (d) (e))"
             + "(:action s" + begin + "(not (a))) :effect (a))"
             + "(:action t" + begin + "(not (b)) (a)) :effect (and (b) (not (a))))"
             + "(:action u" + begin + "(not (c)) (b) (a)) :effect (and (c) (not (b)) (not (a))))"
@@ -172,7 +164,7 @@ public final class PlanningTest {
         Desk.due("too few", UOE, () -> desk.planner.plan(22));
         duePlan("a long row", desk, 23, 23, " 0 1 0 2 0 1 0 3 0 1 0 2 0 1 0 4 0 1 0 2 0 1 0");
         Desk.due("letters", 23 * 4, () -> desk.letters().length());
-        Desk walk = desk("(define (domain d) (:predicates (a ?x) (n ?x ?y)) (:action go :parameters (?x ?y)"
+        Desk walk = Desk.ready("(define (domain d) (:predicates (a ?x) (n ?x ?y)) (:action go :parameters (?x ?y)"
             + " :precondition (and (a ?x) (n ?x ?y)) :effect (and (a ?y) (not (a ?x)) (increase (total-cost) 999))))",
             "(define (problem p) (:domain d) (:objects a b c d e) (:init (a a) (n a b) (n b c) (n c d) (n d e))"
             + " (:goal (a e)))");
@@ -182,7 +174,7 @@ public final class PlanningTest {
     }
 
     private static void groundSteps() {
-        Desk desk = desk("(define (domain d) (:types t u) (:predicates (p ?x ?y)) (:action one :parameters (?x - u ?y - t ?z)"
+        Desk desk = Desk.ready("(define (domain d) (:types t u) (:predicates (p ?x ?y)) (:action one :parameters (?x - u ?y - t ?z)"
             + " :precondition (not (= ?y ?z)) :effect (and (p ?x ?y) (increase (total-cost) 120)))"
             + " (:action two :parameters (?x ?y) :precondition (= ?x ?y) :effect (p ?x ?y)))",
             "(define (problem p) (:domain d) (:objects a - t b - u c - t) (:init) (:goal (p a a)))");
@@ -204,7 +196,7 @@ public final class PlanningTest {
     }
 
     private static void letters() {
-        Desk desk = desk("(define (domain d) (:predicates (p ?x) (q)) (:action abc123 :parameters (?x ?y ?z)"
+        Desk desk = Desk.ready("(define (domain d) (:predicates (p ?x) (q)) (:action abc123 :parameters (?x ?y ?z)"
             + " :precondition (and (= ?x ?y) (= ?y ?z)) :effect (p ?x)) (:action b :parameters () :effect (q)))",
             "(define (problem p) (:domain d) (:objects x lo9ng6 0) (:init) (:goal (and (p lo9ng6) (p 0) (q))))");
         Desk.due("before a plan", IOB, () -> desk.planner.letter(0));
