@@ -40,6 +40,7 @@ public final class PromiseEdgesTest {
         ground();
         refusedGround();
         letters();
+        longestPlan();
         noLetters();
         put();
         refusedPut();
@@ -573,6 +574,60 @@ public final class PromiseEdgesTest {
         for (int i : FAR) {
             Desk.due("letter " + i, IOB, () -> desk.planner.letter(i));
         }
+    }
+
+    /**
+     * A head goes round five places, (h ?x), in steps of writing and moving: a counter of five bits, (b ?x), to which one comes
+     * each round, (k) until it is settled. Every line has thirty characters, the most there can be, but for those that start.
+     */
+    private static Desk longLines() {
+        Desk desk = Desk.ready("(define(domain d)(:types f g)(:predicates(n ?x ?y)(b ?x)(h ?x)(i)(k))"
+            + "(:action moving :parameters(?x ?y ?z - f):precondition(and(h ?x)(n ?x ?y)(i)):effect(and(h ?y)(not(h ?x))(not(i))))"
+            + "(:action clears :parameters(?x ?y - f ?z - f):precondition(and(h ?x)(b ?x)(k)):effect(and(not(b ?x))(i)))"
+            + "(:action settle :parameters(?x ?y - f ?z - f):precondition(and(h ?x)(not(b ?x))(k)(not(i))):effect(and(b ?x)(i)(not(k))))"
+            + "(:action passes :parameters(?x - g ?y - f ?z - f):precondition(and(h ?x)(not(k))):effect(i))"
+            + "(:action starts :parameters(?x - f ?y - f):precondition(and(h ?x)(not(k))(not(i))):effect(k)))",
+            "(define(problem p)(:domain d)(:objects place1 - f place2 - g place3 - g place4 - g place5 - g)(:init(h place1)"
+            + "(n place1 place2)(n place2 place3)(n place3 place4)(n place4 place5)(n place5 place1))"
+            + "(:goal(and(b place1)(b place2)(b place5))))");
+        // Eighteen rounds of eleven steps, the start of the nineteenth, and its first bit.
+        Desk.due("plan", 200, () -> desk.planner.plan(200));
+        return desk;
+    }
+
+    private static String longLinesTold() {
+        StringBuilder all = new StringBuilder();
+        for (int before = 0; before < 19; before++) {
+            all.append("(starts place1 place1)\n");
+            boolean carry = true;
+            for (int place = 1; place <= 5 && (before < 18 || place == 1); place++) {
+                boolean bit = (before >> place - 1 & 1) != 0;
+                String write = !carry ? "passes" : bit ? "clears" : "settle";
+                carry = carry && bit;
+                all.append('(').append(write).append(" place").append(place).append(" place1 place1)\n");
+                if (before < 18) {
+                    all.append("(moving place").append(place).append(" place").append(place % 5 + 1).append(" place1)\n");
+                }
+            }
+        }
+        return all.toString();
+    }
+
+    private static void longestPlan() {
+        Desk.sentence("10: Character i of the plan as a text .. (of two hundred steps, nearly all with the longest lines)");
+        String want = longLinesTold();
+        Desk.due("the letters that are due", 181 * 30 + 19 * 23, want::length);
+        // A new object for each part, since an object is used for at most 512 calls.
+        int part = 400;
+        for (int start = 0; start < want.length(); start += part) {
+            Desk desk = longLines();
+            for (int i = start; i < Math.min(want.length(), start + part); i++) {
+                int at = i;
+                Desk.due("letter " + i, want.charAt(i), () -> desk.planner.letter(at));
+            }
+        }
+        Desk last = longLines();
+        Desk.due("letter behind the last", IOB, () -> last.planner.letter(want.length()));
     }
 
     private static void noLetters() {
