@@ -70,26 +70,36 @@ public final class CompareTest {
         }
     }
 
-    /** Two walkers on the same few ways: many plans that cost the same and differ in the order of their steps. */
+    /** Walkers on the same few ways: many plans that cost the same and differ in the order of their steps. */
     private void runWalkers(int seed) {
-        String domain = "(define (domain d)(:predicates (p ?x)(q ?x)(w ?x ?y))" + walker("a", "p", "?x ?y") + walker("b", "q", "?x ?y")
-            + (random.nextBoolean() ? walker("c", "p", "?y ?x") : "") + ")";
-        StringBuilder problem = new StringBuilder("(define (problem p)(:domain d)(:objects i j k").append(
-            domain.contains("action c") ? "" : " l").append(")(:init ");
-        List<String> objects = List.of("i", "j", "k", domain.contains("action c") ? "k" : "l");
-        problem.append("(p " + pick(objects) + ")(q " + pick(objects) + ")");
-        for (int k = random.nextInt(11); k > 0; k--) {
-            problem.append("(w " + pick(objects) + " " + pick(objects) + ")");
+        List<String> walkers = random.nextBoolean() ? List.of("p", "q") : List.of("p", "q", "r");
+        // So many places that there are at most 40 steps and facts.
+        List<String> objects = List.of("i", "j", "k", "l", "m").subList(0, 7 - walkers.size());
+        StringBuilder domain = new StringBuilder("(define (domain d)(:predicates (p ?x)(q ?x)(r ?x)(w ?x ?y))");
+        StringBuilder problem = new StringBuilder("(define (problem p)(:domain d)(:objects " + String.join(" ", objects) + ")(:init ");
+        StringBuilder goal = new StringBuilder();
+        for (int k = 0; k < walkers.size(); k++) {
+            domain.append(walker("a" + k, walkers.get(k), walkers.get((k + 1) % walkers.size())));
+            problem.append("(" + walkers.get(k) + " " + objects.get(random.nextInt(2)) + ")");
+            goal.append("(" + walkers.get(k) + " " + objects.get(objects.size() - 1 - random.nextInt(2)) + ")");
         }
-        problem.append(")(:goal (and (p " + pick(objects) + ")(q " + pick(objects) + "))))");
-        slow.readDomain(domain);
-        desk.domain(domain);
-        tryProblem(domain, problem.toString(), "walkers " + seed + ": ");
+        domain.append(")");
+        for (int k = 1 + random.nextInt(12 - walkers.size()); k > 0; k--) {
+            int from = random.nextInt(objects.size());
+            // Most ways lead to the next place, so that plans are long.
+            int to = random.nextInt(3) > 0 ? (from + 1) % objects.size() : random.nextInt(objects.size());
+            problem.append("(w " + objects.get(from) + " " + objects.get(to) + ")");
+        }
+        problem.append(")(:goal (and " + goal + ")))");
+        slow.readDomain(domain.toString());
+        desk.domain(domain.toString());
+        tryProblem(domain.toString(), problem.toString(), "walkers " + seed + ": ");
     }
 
-    private String walker(String name, String where, String way) {
-        return "(:action " + name + " :parameters (?x ?y) :precondition (and (" + where + " ?x)(w " + way + ")) :effect (and ("
-            + where + " ?y)(not (" + where + " ?x))(increase (total-cost) " + (1 + random.nextInt(3)) + ")))";
+    private String walker(String name, String where, String other) {
+        return "(:action " + name + " :parameters (?x ?y) :precondition (and (" + where + " ?x)(w ?x ?y)(not (= ?x ?y))"
+            + (random.nextInt(3) == 0 ? "(not (" + other + " ?y))" : "") + ") :effect (and (" + where + " ?y)(not (" + where
+            + " ?x))(increase (total-cost) " + (1 + random.nextInt(2)) + ")))";
     }
 
     private static int faultOf(Runnable reading) {
@@ -367,7 +377,7 @@ public final class CompareTest {
         }
         int at = random.nextInt(tokens.size());
         int other = random.nextInt(tokens.size());
-        switch (random.nextInt(10)) {
+        switch (random.nextInt(12)) {
             case 0 -> tokens.remove(at);
             case 1 -> tokens.add(at, " " + pick(STRAY) + " ");
             case 2 -> tokens.set(at, " " + pick(STRAY) + " ");
@@ -376,9 +386,24 @@ public final class CompareTest {
             case 5 -> tokens.add(at, " " + tokens.get(other) + " ");
             case 6, 7 -> swapLike(tokens, at);
             case 8 -> tokens.add(Math.max(at, tokens.lastIndexOf("increase") - 1), "(increase (total-cost) 3)");
+            case 9, 10 -> retype(tokens, at);
             default -> tokens.subList(at, tokens.size()).clear();
         }
         return String.join("", tokens);
+    }
+
+    /** Gives what is typed from there on, or the first that is, another type or none: its atoms may not fit any more. */
+    private void retype(List<String> tokens, int from) {
+        int behind = tokens.subList(from, tokens.size()).indexOf("-");
+        int at = behind < 0 ? tokens.indexOf("-") : from + behind;
+        if (at < 0 || at + 2 >= tokens.size()) {
+            return;
+        }
+        if (random.nextInt(3) == 0) {
+            tokens.subList(at, at + 3).clear();
+        } else {
+            tokens.set(at + 2, pick(types));
+        }
     }
 
     /** Puts another word of the same look in the place of the first word from there on. */
