@@ -368,9 +368,9 @@ final class SlowPlanner {
             if (goalHolds(way.state)) {
                 found = way;
             }
-            // Far above any limit, and more than all that cost as much as the last.
-            if (settled.size() > 700) {
-                break;
+            // More than any limit are cheaper than this one, and so than the plan.
+            if (found == null && cheaperThan(settled, way.cost) > 200) {
+                return "UnsupportedOperationException";
             }
             for (int number = 0; number < steps.size(); number++) {
                 Step next = steps.get(number);
@@ -381,19 +381,18 @@ final class SlowPlanner {
                 }
             }
         }
-        int cheaper = 0;
-        for (int cost : settled.values()) {
-            if (found == null || cost < found.cost) {
-                cheaper++;
-            }
-        }
-        if (cheaper > most) {
+        if (cheaperThan(settled, found == null ? Integer.MAX_VALUE : found.cost) > most) {
             return "UnsupportedOperationException";
         }
-        if (found == null && settled.size() > 700) {
-            throw new IllegalStateException("the comparison gave up too early");
-        }
         return found == null ? "-1" : found.cost + " " + found.row;
+    }
+
+    private static int cheaperThan(Map<Set<String>, Integer> settled, int limit) {
+        int cheaper = 0;
+        for (int cost : settled.values()) {
+            cheaper += cost < limit ? 1 : 0;
+        }
+        return cheaper;
     }
 
     String letters(List<Integer> row) {
